@@ -11,6 +11,7 @@ public final class PromiseTest {
         text();
         textAtItsEdges();
         textOfTooManyBytes();
+        textBehindAnother();
         fault();
         now();
         item();
@@ -137,6 +138,8 @@ public final class PromiseTest {
         faulty("carry 1;office 1;taxable 0 1 1;", 1, 30);
         faulty("carry 1;office 1a;", 1, 15);
         faulty("carry 1;office a1;", 1, 15);
+        faulty("carry 1;office 1;lossz 0 1 1;", 1, 17);
+        faulty("carry 1;office 1;loss$0 1 1;", 1, 21);
         faulty("carry 000001;", 1, 6);
         faulty("carry 100000;", 1, 6);
         faulty("carry -1;", 1, 6);
@@ -198,6 +201,33 @@ public final class PromiseTest {
         right(padded(PLAIN, 588) + "loss 0 1 39;", 3);
         faulty("carry 1;office" + " ".repeat(620), 1, 600);
         faulty("carry 1;office" + " ".repeat(500), 1, 514);
+    }
+
+    /** Nothing of what stood ahead is left, whichever text was read two ahead. */
+    private static void textBehindAnother() {
+        String rich = "carry 5;office 100;office 200;rate 0 1 300;profit 0 0 8;profit 0 1 9;taxable 0 7 1 1;loss 0 9 9;";
+        DeferredDesk d = Checks.desk(rich);
+        for (int k = 0; k < 3; k++) {
+            d.expect(0, 2, 50);
+            d.yearEnd();
+            Checks.read(d, PLAIN);
+            int[] told = {0, 0, 1, 0, 0, 0, 0, 0};
+            for (int what = 0; what < told.length; what++) {
+                due("4 now " + what + " of a new text", d.now(what), told[what]);
+            }
+            due("4 rate", d.rate(0, 39), 100);
+            due("4 profit of 0", d.expect(0, 0, 1), 0);
+            due("4 profit of 1", d.covered(0, 1, 1), 0);
+            due("4 profit of 2", d.covered(0, 2, 1), 0);
+            due("4 rich again", Checks.read(d, rich), 8);
+            due("4 profit of 2", d.covered(0, 2, 1), 0);
+            due("4 losses", d.now(4), 1);
+        }
+        DeferredDesk u = Checks.desk(rich);
+        u.yearEnd();
+        u.undo();
+        due("21 carry", u.now(1), 5);
+        due("21 offices", u.now(2), 2);
     }
 
     private static void fault() {
@@ -334,6 +364,8 @@ public final class PromiseTest {
         due("10 the told one first", e.balance(0, 2), 0);
         DeferredDesk f = Checks.desk("carry 0;office 100;loss 0 50 5;loss 0 30 3;profit 0 2 30;profit 0 4 50;");
         due("10 the earlier last year first", f.balance(0, 2), 0);
+        DeferredDesk h = Checks.desk("carry 0;office 100;loss 0 10 2;loss 0 10 3;profit 0 1 10;profit 0 3 10;");
+        due("10 no more than COVER is used", h.balance(0, 2), 0);
         DeferredDesk g = Checks.desk("carry 9;office 100;loss 0 10 1;deductible 0 10 1 1;profit 0 1 10;profit 0 2 10;");
         due("10 DEDUCTED ahead of losses", g.covered(0, 1, 3), 10);
         due("10 the loss lapses", g.balance(0, 2), 10);
@@ -398,6 +430,14 @@ public final class PromiseTest {
         due("12 year max", d.closing(0, Integer.MAX_VALUE, 0), NO_SUM);
         due("12 office 1", d.closing(1, 0, 0), NO_SUM);
         due("12 office -1", d.closing(-1, 0, 0), NO_SUM);
+        DeferredDesk two = Checks.desk("carry 0;office 100;office 200;taxable 0 50 1 1;profit 1 0 5;taxable 1 60 2 2;");
+        two.yearEnd();
+        two.enact(1, 2, 300);
+        two.yearEnd();
+        dueClosing(two, 0, 0, 5, 0, 0, -5, 0, -5, 0);
+        dueClosing(two, 1, 0, 12, 0, 0, -12, 0, -12, 5);
+        dueClosing(two, 0, 1, 0, 0, 0, 5, 0, 5, 50);
+        dueClosing(two, 1, 1, 18, 0, 0, -6, -6, 0, 0);
         Checks.read(d, PLAIN);
         due("12 none with a new text", d.closing(0, 0, 0), NO_SUM);
         d.yearEnd();
@@ -419,6 +459,9 @@ public final class PromiseTest {
         d.yearEnd();
         due("12 used up to its last year", d.loss(2, 3), 23);
         due("12 a lapsed loss stays", d.loss(3, 3), 9);
+        DeferredDesk longest = Checks.desk("carry 0;office 1;loss 0 5 39;profit 0 0 3;");
+        longest.yearEnd();
+        due("12 used of one with LAST 39", longest.loss(0, 3), 2);
         DeferredDesk none = Checks.desk("carry 0;office 1;deductible 0 5 1 1;");
         none.yearEnd();
         none.yearEnd();
