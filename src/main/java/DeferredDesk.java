@@ -509,7 +509,7 @@ public final class DeferredDesk {
             return so ? losses[row + LOSS_LEFT] : 0;
         }
 
-        int leftUpTo(int office, int last) {
+        int leftWithLast(int office, int last) {
             int left = 0;
             for (int loss = 0; loss < lossCount; loss++) {
                 left += leftOf(loss, office, last);
@@ -588,7 +588,7 @@ public final class DeferredDesk {
             standing = 0;
             for (int last = 0; last < leftByLast.length; last++) {
                 boolean told = last > book.year && last < YEARS;
-                leftByLast[last] = told ? book.leftUpTo(office, last) : 0;
+                leftByLast[last] = told ? book.leftWithLast(office, last) : 0;
                 standing += leftByLast[last];
             }
             unused = standing;

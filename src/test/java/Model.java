@@ -32,13 +32,7 @@ final class Model {
         }
 
         Item copy() {
-            Item item = new Item();
-            item.office = office;
-            item.taxable = taxable;
-            item.sum = sum;
-            item.first = first;
-            item.last = last;
-            return item;
+            return newItem(office, taxable, sum, first, last);
         }
     }
 

@@ -221,6 +221,7 @@ public final class PromiseTest {
             due("4 profit of 2", d.covered(0, 2, 1), 0);
             due("4 rich again", Checks.read(d, rich), 8);
             due("4 profit of 2", d.covered(0, 2, 1), 0);
+            due("4 items", d.now(3), 1);
             due("4 losses", d.now(4), 1);
         }
         DeferredDesk u = Checks.desk(rich);
@@ -366,6 +367,9 @@ public final class PromiseTest {
         due("10 the earlier last year first", f.balance(0, 2), 0);
         DeferredDesk h = Checks.desk("carry 0;office 100;loss 0 10 2;loss 0 10 3;profit 0 1 10;profit 0 3 10;");
         due("10 no more than COVER is used", h.balance(0, 2), 0);
+        h.expect(0, 3, 0);
+        h.expect(0, 4, 10);
+        due("10 what was not used lapses", h.covered(0, 4, 4), 0);
         DeferredDesk g = Checks.desk("carry 9;office 100;loss 0 10 1;deductible 0 10 1 1;profit 0 1 10;profit 0 2 10;");
         due("10 DEDUCTED ahead of losses", g.covered(0, 1, 3), 10);
         due("10 the loss lapses", g.balance(0, 2), 10);
