@@ -18,12 +18,11 @@ public final class DeferredDesk {
     private static final int PART_OF_YEAR_0 = 100;
 
     private final Tape tape = new Tape();
-    private final Reader reader = new Reader();
+    private final Reader reader = new Reader(tape);
     private final Cover cover = new Cover();
     private final Acts acts = new Acts();
     private final Closing[] closings = new Closing[LAST_YEAR * MOST_OFFICES];
     private Book book = new Book();
-    private Book draft = new Book();
 
     public DeferredDesk() {
     }
@@ -49,14 +48,12 @@ public final class DeferredDesk {
     }
 
     public int text() {
-        boolean read = reader.reads(tape, draft);
+        boolean read = reader.reads();
         tape.size = 0;
         if (!read) {
             return -1 - reader.place;
         }
-        Book former = book;
-        book = draft;
-        draft = former;
+        book = reader.exchange(book);
         acts.forget();
         return reader.lines;
     }
@@ -737,7 +734,7 @@ public final class DeferredDesk {
         }
     }
 
-    /** Reads a tape as a TEXT into a book that is not in use; stops at the first FAULT. */
+    /** Reads the tape as a TEXT into a book that is not in use; stops at the first FAULT. */
     private static final class Reader {
         private static final int MOST_BYTES = 600;
         private static final int MOST_TOLD_ITEMS = 16;
@@ -752,8 +749,8 @@ public final class DeferredDesk {
         private static final int SEMICOLON = 4;
 
         private final int[] numbers = new int[4];
-        private Tape tape;
-        private Book book;
+        private final Tape tape;
+        private Book book = new Book();
         private int behind;
         private int kind;
         private int value;
@@ -761,9 +758,18 @@ public final class DeferredDesk {
         int lines;
         int refused;
 
-        boolean reads(Tape from, Book into) {
-            tape = from;
-            book = into;
+        Reader(Tape tape) {
+            this.tape = tape;
+        }
+
+        /** Gives the book that was read for one that is not in use any more. */
+        Book exchange(Book former) {
+            Book read = book;
+            book = former;
+            return read;
+        }
+
+        boolean reads() {
             book.clear();
             behind = 0;
             lines = 0;
