@@ -17,8 +17,8 @@ public final class DeferredDesk {
     private static final int MOST_LOSSES = 10;
     private static final int PART_OF_YEAR_0 = 100;
 
-    private final Tape tape = new Tape();
-    private final Reader reader = new Reader(tape);
+    private final Reader reader = new Reader();
+    private final Tape tape = reader.tape;
     private final Cover cover = new Cover();
     private final Acts acts = new Acts();
     private final Closing[] closings = new Closing[LAST_YEAR * MOST_OFFICES];
@@ -748,8 +748,8 @@ public final class DeferredDesk {
         private static final int NUMBER = 3;
         private static final int SEMICOLON = 4;
 
+        final Tape tape = new Tape();
         private final int[] numbers = new int[4];
-        private final Tape tape;
         private Book book = new Book();
         private int behind;
         private int kind;
@@ -757,10 +757,6 @@ public final class DeferredDesk {
         int place;
         int lines;
         int refused;
-
-        Reader(Tape tape) {
-            this.tape = tape;
-        }
 
         /** Gives the book that was read for one that is not in use any more. */
         Book exchange(Book former) {
